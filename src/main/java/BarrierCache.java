@@ -20,9 +20,6 @@ public final class BarrierCache {
     private static final int DIRTY_LONGEST = 2;
     private static final int RANKS_RISING = 3;
 
-    /** Above every epoch that a run can reach. */
-    private static final int ALL_EPOCHS = Integer.MAX_VALUE;
-
     private final Slot[] slots;
     private final int policy;
     private final Disk disk;
@@ -94,7 +91,7 @@ public final class BarrierCache {
     public int flush() throws IllegalStateException {
         mustBeOn();
         int before = disk.writes;
-        drain(ALL_EPOCHS, 0);
+        drain(epoch + 1, 0);
         return disk.writes - before;
     }
 
@@ -304,7 +301,7 @@ public final class BarrierCache {
 
     private void keepLimits() {
         if (high >= 0 && dirtySlots() > high) {
-            drain(ALL_EPOCHS, low);
+            drain(epoch + 1, low);
         }
     }
 

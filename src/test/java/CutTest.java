@@ -35,6 +35,7 @@ public final class CutTest {
         x.cut(0);
         Check.due("what is left", x.total(11), 0);
         Check.due("a write", x.force(1, 1), 1);
+        Check.due("what is left", x.total(11), 0);
         Check.due("power", x.total(10), 1);
     }
 

@@ -5,6 +5,7 @@ public final class OrderTest {
         Check.due("falling", flushedBy(1), "8 7 6 3 2 / 9 1");
         Check.due("by when they became dirty", flushedBy(2), "7 2 3 8 6 / 9 1");
         Check.due("by ranks", flushedBy(3), "8 3 7 2 6 / 9 1");
+        dirtyAnewBehindABarrier();
         answers();
         wrongCalls();
         Check.end();
@@ -34,6 +35,18 @@ public final class OrderTest {
         x.flush();
         String all = Check.writtenFrom(x, before);
         return all.substring(0, 9) + " / " + all.substring(10);
+    }
+
+    /** Block 1 is written out, and so clean, before it becomes dirty of the new epoch. */
+    private static void dirtyAnewBehindABarrier() {
+        BarrierCache x = new BarrierCache(3, 0);
+        x.order(2);
+        x.write(1, 1);
+        x.barrier();
+        x.write(2, 2);
+        x.write(1, 3);
+        x.flush();
+        Check.due("by when they became dirty last", Check.writtenFrom(x, 0), "1 2 1");
     }
 
     private static void answers() {

@@ -29,9 +29,11 @@ public final class PowerTest {
         x.barrier();
         x.write(5, 50);
         x.write(6, 60);
+        x.read(7);
         x.limits(3, 3);
         x.cut(2);
         x.flush();
+        Check.due("the hand without power", x.total(9), 1);
         x.cut(7);
         Check.due("off", x.power(), true);
         Check.due("on", x.total(10), 1);
@@ -42,7 +44,7 @@ public final class PowerTest {
         Check.due("what had gone out stays", x.read(6), 60);
         Check.due("what had not is lost", x.read(5), 0);
         Check.due("order stays", x.order(0), 1);
-        Check.due("counts stay", x.total(5), 8);
+        Check.due("counts stay", x.total(5), 9);
         Check.due("again", x.power(), false);
         Check.due("barrier", x.barrier(), 2);
     }

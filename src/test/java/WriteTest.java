@@ -104,6 +104,7 @@ public final class WriteTest {
         x.cut(1);
         Check.due("while a slot is taken", x.write(4, 4), 0);
         Check.due("it did not come", Check.blocks(x), "-1 -1 -1");
+        Check.due("no dirt", x.total(1), 0);
         Check.due("disk 1", x.disk(1), 10);
     }
 
