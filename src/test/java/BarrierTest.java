@@ -15,10 +15,7 @@ public final class BarrierTest {
             Check.due("barrier " + i, x.barrier(), i);
         }
 
-        BarrierCache off = Check.withoutPower(2, 0);
-        String before = Check.state(off);
-        Check.dueBadState("barrier without power", off::barrier);
-        Check.due("nothing changed", Check.state(off), before);
+        Check.duePowerOnly("barrier", (c, block) -> c.barrier());
         Check.end();
     }
 }

@@ -4,6 +4,12 @@ final class Check {
         Object answer();
     }
 
+    interface BlockCall {
+        Object answer(BarrierCache x, int block);
+    }
+
+    private static final int[] NO_BLOCKS = {-1, 256, Integer.MIN_VALUE, Integer.MAX_VALUE};
+
     private static int wrong = 0;
 
     private Check() {
@@ -31,6 +37,26 @@ final class Check {
 
     static void dueBadState(String what, Call call) {
         due(what, outcome(call), "throws.IllegalStateException");
+    }
+
+    /** A call for what is no block is refused and changes nothing. */
+    static void dueBlocksOnly(String name, BarrierCache x, BlockCall call) {
+        String before = state(x);
+        for (int block : NO_BLOCKS) {
+            dueBadArgument(name + " of " + block, () -> call.answer(x, block));
+        }
+        due("the state behind a refused " + name, state(x), before);
+    }
+
+    /** Without power a call is refused, be it for a block or not, and changes nothing. */
+    static void duePowerOnly(String name, BlockCall call) {
+        BarrierCache off = withoutPower(1, 0);
+        String before = state(off);
+        dueBadState(name + " without power", () -> call.answer(off, 0));
+        for (int block : NO_BLOCKS) {
+            dueBadState(name + " of " + block + " without power", () -> call.answer(off, block));
+        }
+        due("the state behind a refused " + name, state(off), before);
     }
 
     /** block, value, epoch, pinned, uses and mark of a slot. */

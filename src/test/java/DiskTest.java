@@ -13,10 +13,7 @@ public final class DiskTest {
         Check.due("no read is counted", x.total(8), 0);
         Check.due("no slot is used", x.slot(0, 4), 2);
 
-        int[] wrong = {-1, 256, Integer.MIN_VALUE, Integer.MAX_VALUE};
-        for (int block : wrong) {
-            Check.dueBadArgument("disk " + block, () -> x.disk(block));
-        }
+        Check.dueBlocksOnly("disk", x, (c, block) -> c.disk(block));
         x.cut(1);
         x.flush();
         Check.due("without power", x.disk(0), 5);

@@ -18,15 +18,8 @@ public final class DropTest {
         Check.due("its dirt is lost", x.read(1), 0);
         Check.due("slots taken", x.total(6), 0);
 
-        String before = Check.state(x);
-        int[] wrong = {-1, 256, Integer.MIN_VALUE, Integer.MAX_VALUE};
-        for (int block : wrong) {
-            Check.dueBadArgument("drop " + block, () -> x.drop(block));
-        }
-        Check.due("nothing changed", Check.state(x), before);
-        BarrierCache off = Check.withoutPower(1, 0);
-        Check.dueBadState("drop without power", () -> off.drop(0));
-        Check.dueBadState("drop of no block without power", () -> off.drop(-1));
+        Check.dueBlocksOnly("drop", x, (c, block) -> c.drop(block));
+        Check.duePowerOnly("drop", (c, block) -> c.drop(block));
         Check.end();
     }
 }

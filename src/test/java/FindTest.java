@@ -18,10 +18,7 @@ public final class FindTest {
         x.read(9);
         Check.due("the least free slot", x.find(9), 0);
 
-        int[] wrong = {-1, 256, Integer.MIN_VALUE, Integer.MAX_VALUE};
-        for (int block : wrong) {
-            Check.dueBadArgument("find " + block, () -> x.find(block));
-        }
+        Check.dueBlocksOnly("find", x, (c, block) -> c.find(block));
         x.cut(1);
         x.force(9, 1);
         Check.due("without power", x.find(9), BarrierCache.NONE);

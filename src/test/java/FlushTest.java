@@ -49,9 +49,6 @@ public final class FlushTest {
     }
 
     private static void wrongCalls() {
-        BarrierCache off = Check.withoutPower(2, 0);
-        String before = Check.state(off);
-        Check.dueBadState("flush without power", off::flush);
-        Check.due("nothing changed", Check.state(off), before);
+        Check.duePowerOnly("flush", (c, block) -> c.flush());
     }
 }

@@ -100,16 +100,7 @@ public final class ForceTest {
         BarrierCache x = new BarrierCache(1, 0);
         x.write(4, 4);
         x.barrier();
-        String before = Check.state(x);
-        int[] wrong = {-1, 256, Integer.MIN_VALUE, Integer.MAX_VALUE};
-        for (int block : wrong) {
-            Check.dueBadArgument("force " + block, () -> x.force(block, 1));
-        }
-        Check.due("nothing changed", Check.state(x), before);
-        BarrierCache off = Check.withoutPower(1, 0);
-        before = Check.state(off);
-        Check.dueBadState("force without power", () -> off.force(0, 1));
-        Check.dueBadState("force of no block without power", () -> off.force(-1, 1));
-        Check.due("nothing changed", Check.state(off), before);
+        Check.dueBlocksOnly("force", x, (c, block) -> c.force(block, 1));
+        Check.duePowerOnly("force", (c, block) -> c.force(block, 1));
     }
 }

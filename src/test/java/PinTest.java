@@ -61,14 +61,7 @@ public final class PinTest {
     private static void wrongCalls() {
         BarrierCache x = new BarrierCache(1, 0);
         x.read(4);
-        String before = Check.state(x);
-        int[] wrong = {-1, 256, Integer.MIN_VALUE, Integer.MAX_VALUE};
-        for (int block : wrong) {
-            Check.dueBadArgument("pin " + block, () -> x.pin(block, true));
-        }
-        Check.due("nothing changed", Check.state(x), before);
-        BarrierCache off = Check.withoutPower(1, 0);
-        Check.dueBadState("pin without power", () -> off.pin(0, true));
-        Check.dueBadState("pin of no block without power", () -> off.pin(-1, false));
+        Check.dueBlocksOnly("pin", x, (c, block) -> c.pin(block, true));
+        Check.duePowerOnly("pin", (c, block) -> c.pin(block, true));
     }
 }

@@ -103,16 +103,7 @@ public final class ReadTest {
     private static void wrongCalls() {
         BarrierCache x = new BarrierCache(1, 0);
         x.write(4, 4);
-        String before = Check.state(x);
-        int[] wrong = {-1, 256, Integer.MIN_VALUE, Integer.MAX_VALUE};
-        for (int block : wrong) {
-            Check.dueBadArgument("read " + block, () -> x.read(block));
-        }
-        Check.due("nothing changed", Check.state(x), before);
-        BarrierCache off = Check.withoutPower(1, 0);
-        before = Check.state(off);
-        Check.dueBadState("read without power", () -> off.read(0));
-        Check.dueBadState("read of no block without power", () -> off.read(-1));
-        Check.due("nothing changed", Check.state(off), before);
+        Check.dueBlocksOnly("read", x, (c, block) -> c.read(block));
+        Check.duePowerOnly("read", (c, block) -> c.read(block));
     }
 }

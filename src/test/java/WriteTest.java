@@ -125,16 +125,7 @@ public final class WriteTest {
         BarrierCache x = new BarrierCache(1, 0);
         x.write(4, 4);
         x.barrier();
-        String before = Check.state(x);
-        int[] wrong = {-1, 256, Integer.MIN_VALUE, Integer.MAX_VALUE};
-        for (int block : wrong) {
-            Check.dueBadArgument("write " + block, () -> x.write(block, 1));
-        }
-        Check.due("nothing changed", Check.state(x), before);
-        BarrierCache off = Check.withoutPower(1, 0);
-        before = Check.state(off);
-        Check.dueBadState("write without power", () -> off.write(0, 1));
-        Check.dueBadState("write of no block without power", () -> off.write(256, 1));
-        Check.due("nothing changed", Check.state(off), before);
+        Check.dueBlocksOnly("write", x, (c, block) -> c.write(block, 1));
+        Check.duePowerOnly("write", (c, block) -> c.write(block, 1));
     }
 }
