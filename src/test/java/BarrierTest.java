@@ -1,6 +1,14 @@
 /** Promise 6: barrier. */
 public final class BarrierTest {
     public static void main(String[] args) {
+        ordinary();
+        onAnEmptyObject();
+        epochStaysWithoutPower();
+        Check.duePowerOnly("barrier", (c, block) -> c.barrier());
+        Check.end();
+    }
+
+    private static void ordinary() {
         BarrierCache x = new BarrierCache(2, 0);
         x.write(1, 10);
         Check.due("the first", x.barrier(), 1);
@@ -11,11 +19,28 @@ public final class BarrierTest {
         x.write(2, 20);
         Check.due("new dirt has the new one", x.slot(1, 2), 2);
         Check.due("flush goes by epochs", x.flush(), 2);
-        for (int i = 3; i <= 100; i++) {
+        Check.due("a flush is no barrier", x.total(3), 2);
+    }
+
+    private static void onAnEmptyObject() {
+        BarrierCache x = new BarrierCache(1, 0);
+        Check.due("at first", x.total(3), 0);
+        for (int i = 1; i <= 500; i++) {
             Check.due("barrier " + i, x.barrier(), i);
         }
+        x.write(1, 1);
+        Check.due("dirt of the latest", x.slot(0, 2), 500);
+    }
 
-        Check.duePowerOnly("barrier", (c, block) -> c.barrier());
-        Check.end();
+    private static void epochStaysWithoutPower() {
+        BarrierCache x = new BarrierCache(1, 0);
+        x.barrier();
+        x.barrier();
+        x.cut(1);
+        x.force(1, 1);
+        Check.due("without power", x.total(3), 2);
+        x.power();
+        Check.due("with power again", x.total(3), 2);
+        Check.due("the next", x.barrier(), 3);
     }
 }

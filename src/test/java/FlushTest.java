@@ -2,6 +2,7 @@
 public final class FlushTest {
     public static void main(String[] args) {
         allDirt();
+        allSlotsDirty();
         powerFailsBetweenAnyTwoWrites();
         wrongCalls();
         Check.end();
@@ -30,6 +31,24 @@ public final class FlushTest {
         Check.due("a new object's", new BarrierCache(1, 0).flush(), 0);
     }
 
+    private static void allSlotsDirty() {
+        BarrierCache x = new BarrierCache(32, 0);
+        StringBuilder due = new StringBuilder("200");
+        for (int i = 0; i < 32; i++) {
+            x.write(200 + i, i);
+            due.append(i == 0 ? "" : " " + (200 + i));
+        }
+        Check.due("flush", x.flush(), 32);
+        Check.due("written", Check.writtenFrom(x, 0), due.toString());
+        Check.due("dirty ones", x.total(1), 0);
+        Check.due("again", x.flush(), 0);
+        BarrierCache one = new BarrierCache(1, 0);
+        one.write(0, 5);
+        Check.due("one slot", one.flush(), 1);
+        one.read(0);
+        Check.due("a clean one", one.flush(), 0);
+    }
+
     private static void powerFailsBetweenAnyTwoWrites() {
         int[] blocks = {7, 9, 1, 8};
         for (int k = 1; k <= 4; k++) {
@@ -40,6 +59,8 @@ public final class FlushTest {
                 Check.due("cut " + k + ": disk " + blocks[i], x.disk(blocks[i]), i < k - 1 ? 10 * blocks[i] : 0);
             }
             Check.due("cut " + k + ": slots", Check.blocks(x), "-1 -1 -1 -1 -1 -1 -1 -1");
+            Check.due("cut " + k + ": dirty and pinned ones", x.total(1) + x.total(2), 0);
+            Check.due("cut " + k + ": power", x.total(10), 0);
         }
         BarrierCache x = twoEpochs();
         x.cut(5);

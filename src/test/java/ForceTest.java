@@ -2,10 +2,12 @@
 public final class ForceTest {
     public static void main(String[] args) {
         withoutSlot();
+        firstAndLastBlock();
         withCleanSlot();
         withDirtySlotOfThisEpoch();
         withDirtySlotOfAnEarlierEpoch();
         earlierEpochsFirst();
+        withoutSlotBehindABarrier();
         powerFails();
         limitsDoNotMatter();
         wrongCalls();
@@ -18,6 +20,16 @@ public final class ForceTest {
         Check.due("disk", x.disk(255), 3);
         Check.due("it gets no slot", x.find(255), -1);
         Check.due("hits and misses", x.total(4) + x.total(5), 0);
+    }
+
+    private static void firstAndLastBlock() {
+        BarrierCache x = new BarrierCache(1, 0);
+        Check.due("block 0", x.force(0, Integer.MIN_VALUE), 1);
+        Check.due("block 255", x.force(255, Integer.MAX_VALUE), 1);
+        Check.due("disk 0", x.disk(0), Integer.MIN_VALUE);
+        Check.due("disk 255", x.disk(255), Integer.MAX_VALUE);
+        Check.due("what is there already", x.force(255, Integer.MAX_VALUE), 1);
+        Check.due("written", Check.writtenFrom(x, 0), "0 255 255");
     }
 
     private static void withCleanSlot() {
@@ -65,6 +77,18 @@ public final class ForceTest {
         Check.due("written", Check.writtenFrom(x, 0), "3 4 1 2 5");
         Check.due("6 stays dirty", x.total(1), 1);
         Check.due("6 stays dirty", x.slot(x.find(6), 2), 2);
+    }
+
+    private static void withoutSlotBehindABarrier() {
+        BarrierCache x = new BarrierCache(2, 0);
+        x.write(1, 10);
+        x.write(2, 20);
+        Check.due("this epoch's dirt stays", x.force(3, 30), 1);
+        x.barrier();
+        Check.due("an earlier one's goes first", x.force(3, 31), 3);
+        Check.due("written", Check.writtenFrom(x, 0), "3 1 2 3");
+        Check.due("then there is none", x.force(3, 32), 1);
+        Check.due("slots", Check.blocks(x), "1 2");
     }
 
     private static void powerFails() {

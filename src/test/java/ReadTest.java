@@ -2,11 +2,14 @@
 public final class ReadTest {
     public static void main(String[] args) {
         missThenHit();
+        firstAndLastBlock();
+        dirtOfAnEarlierEpochStays();
         takesCleanBeforeDirty();
         dirtGoesOutWithWhatLiesBehindEarlierBarriers();
         withoutSlot();
         powerFails();
-        powerFailsOnTheSecondOfTwoWrites();
+        powerFailsOnTheFirstOrSecondOfTwoWrites();
+        noWriteNoFailure();
         wrongCalls();
         Check.end();
     }
@@ -25,6 +28,25 @@ public final class ReadTest {
         Check.due("a dirty slot", x.read(255), -5);
         Check.due("it stays dirty", Check.slot(x, 1), "255 -5 0 0 2 1");
         Check.due("the disk has not got it", x.disk(255), 0);
+    }
+
+    private static void firstAndLastBlock() {
+        BarrierCache x = new BarrierCache(1, 0);
+        x.force(0, Integer.MAX_VALUE);
+        x.force(255, Integer.MIN_VALUE);
+        Check.due("block 0", x.read(0), Integer.MAX_VALUE);
+        Check.due("its slot", Check.slot(x, 0), "0 2147483647 -1 0 1 1");
+        Check.due("block 255", x.read(255), Integer.MIN_VALUE);
+        Check.due("its slot", Check.slot(x, 0), "255 -2147483648 -1 0 1 1");
+    }
+
+    private static void dirtOfAnEarlierEpochStays() {
+        BarrierCache x = new BarrierCache(1, 0);
+        x.write(1, 10);
+        x.barrier();
+        Check.due("read", x.read(1), 10);
+        Check.due("it is of its epoch yet", Check.slot(x, 0), "1 10 0 0 2 1");
+        Check.due("no write", x.total(7), 0);
     }
 
     private static void takesCleanBeforeDirty() {
@@ -87,17 +109,32 @@ public final class ReadTest {
         Check.due("misses", x.total(5), 2);
     }
 
-    private static void powerFailsOnTheSecondOfTwoWrites() {
-        BarrierCache x = new BarrierCache(2, 1);
-        x.read(1);
-        x.write(2, 20);
-        x.barrier();
-        x.write(1, 10);
-        x.cut(2);
-        Check.due("the power fails", x.read(3), 0);
-        Check.due("what lies behind the earlier barrier is there", x.disk(2), 20);
-        Check.due("the later one is not", x.disk(1), 0);
-        Check.due("all slots are free", Check.blocks(x), "-1 -1");
+    private static void powerFailsOnTheFirstOrSecondOfTwoWrites() {
+        for (int k = 1; k <= 2; k++) {
+            BarrierCache x = new BarrierCache(2, 1);
+            x.force(3, 33);
+            x.read(1);
+            x.write(2, 20);
+            x.barrier();
+            x.write(1, 10);
+            x.cut(k);
+            Check.due("cut " + k + ": the power fails", x.read(3), 0);
+            Check.due("cut " + k + ": what lies behind the earlier barrier", x.disk(2), k == 1 ? 0 : 20);
+            Check.due("cut " + k + ": the later one is not there", x.disk(1), 0);
+            Check.due("cut " + k + ": all slots are free", Check.blocks(x), "-1 -1");
+            Check.due("cut " + k + ": power", x.total(10), 0);
+        }
+    }
+
+    private static void noWriteNoFailure() {
+        BarrierCache x = new BarrierCache(1, 0);
+        x.force(2, 22);
+        x.cut(1);
+        Check.due("to a free slot", x.read(1), 0);
+        Check.due("taking a clean one", x.read(2), 22);
+        Check.due("a hit", x.read(2), 22);
+        Check.due("the cut is for writes to the disk", x.total(11), 1);
+        Check.due("power", x.total(10), 1);
     }
 
     private static void wrongCalls() {

@@ -2,6 +2,8 @@
 public final class SlotTest {
     public static void main(String[] args) {
         numbers();
+        freeOnes();
+        cleanAndDirty();
         marks();
         wrongCalls();
         Check.end();
@@ -28,6 +30,39 @@ public final class SlotTest {
         Check.due("free again", Check.slot(x, 0), "-1 0 -1 0 0 0");
     }
 
+    /** Of a free one NONE for 0 and 2, and 0 for 1 and 3 to 5, however it became free. */
+    private static void freeOnes() {
+        BarrierCache x = new BarrierCache(2, 2);
+        Check.due("never used", Check.slot(x, 1), "-1 0 -1 0 0 0");
+        x.barrier();
+        x.write(7, 70);
+        x.pin(7, true);
+        x.read(7);
+        x.drop(7);
+        Check.due("dropped", Check.slot(x, 0), "-1 0 -1 0 0 0");
+        x.write(7, 70);
+        x.pin(7, true);
+        x.cut(1);
+        x.flush();
+        Check.due("without power", Check.slot(x, 0), "-1 0 -1 0 0 0");
+        x.power();
+        Check.due("with power again", Check.slot(x, 0), "-1 0 -1 0 0 0");
+    }
+
+    private static void cleanAndDirty() {
+        BarrierCache x = new BarrierCache(1, 0);
+        x.read(0);
+        Check.due("clean", x.slot(0, 2), BarrierCache.NONE);
+        x.write(0, 1);
+        Check.due("dirty of epoch 0", x.slot(0, 2), 0);
+        x.barrier();
+        Check.due("yet", x.slot(0, 2), 0);
+        x.write(0, 2);
+        Check.due("dirty of epoch 1", x.slot(0, 2), 1);
+        x.force(0, 3);
+        Check.due("clean again", x.slot(0, 2), BarrierCache.NONE);
+    }
+
     private static void marks() {
         BarrierCache x = new BarrierCache(3, 2);
         x.read(1);
@@ -41,16 +76,29 @@ public final class SlotTest {
     }
 
     private static void wrongCalls() {
-        BarrierCache x = new BarrierCache(32, 0);
-        Check.due("the last", x.slot(31, 0), -1);
-        int[] slots = {-1, 32, Integer.MIN_VALUE, Integer.MAX_VALUE};
-        for (int slot : slots) {
-            Check.dueBadArgument("slot " + slot, () -> x.slot(slot, 0));
+        int[] counts = {1, 2, 8, 31, 32};
+        for (int n : counts) {
+            BarrierCache x = new BarrierCache(n, 0);
+            Check.due("the last of " + n, x.slot(n - 1, 0), -1);
+            int[] noSlots = {-1, n, Integer.MIN_VALUE, Integer.MAX_VALUE};
+            for (int slot : noSlots) {
+                Check.dueBadArgument("slot " + slot + " of " + n, () -> x.slot(slot, 0));
+            }
         }
+        BarrierCache busy = new BarrierCache(2, 0);
+        busy.write(1, 10);
+        dueNumbersOnly(busy);
+        dueNumbersOnly(Check.withoutPower(2, 0));
+    }
+
+    private static void dueNumbersOnly(BarrierCache x) {
+        String before = Check.state(x);
         int[] whats = {-1, 6, Integer.MIN_VALUE, Integer.MAX_VALUE};
         for (int what : whats) {
             Check.dueBadArgument("what " + what, () -> x.slot(0, what));
+            Check.dueBadArgument("what " + what + " of a free one", () -> x.slot(1, what));
+            Check.dueBadArgument("neither slot nor what " + what, () -> x.slot(2, what));
         }
-        Check.due("without power", Check.slot(Check.withoutPower(1, 0), 0), "-1 0 -1 0 0 0");
+        Check.due("nothing changed", Check.state(x), before);
     }
 }

@@ -2,11 +2,17 @@
 public final class WriteTest {
     public static void main(String[] args) {
         staysInItsSlot();
+        firstAndLastBlock();
+        theSameValueIsDirtToo();
         sameEpoch();
         earlierEpoch();
+        oneEpochEarlier();
+        cleanBehindABarrier();
         takesSlots();
+        takesASlotOfALaterEpoch();
         forcedWithoutSlot();
         powerFails();
+        powerFailsWhileASlotIsTaken();
         powerFailsWhileForced();
         wrongCalls();
         Check.end();
@@ -23,6 +29,26 @@ public final class WriteTest {
         Check.due("it is dirty", Check.slot(x, 1), "0 -2147483648 0 0 2 1");
         Check.due("hits", x.total(4), 1);
         Check.due("misses", x.total(5), 2);
+    }
+
+    private static void firstAndLastBlock() {
+        BarrierCache x = new BarrierCache(2, 0);
+        Check.due("block 0", x.write(0, Integer.MAX_VALUE), 0);
+        Check.due("block 255", x.write(255, Integer.MIN_VALUE), 0);
+        Check.due("slots", Check.slot(x, 0) + ", " + Check.slot(x, 1), "0 2147483647 0 0 1 1, 255 -2147483648 0 0 1 1");
+        Check.due("flush", x.flush(), 2);
+        Check.due("disk 0", x.disk(0), Integer.MAX_VALUE);
+        Check.due("disk 255", x.disk(255), Integer.MIN_VALUE);
+    }
+
+    private static void theSameValueIsDirtToo() {
+        BarrierCache x = new BarrierCache(2, 0);
+        x.write(1, 0);
+        Check.due("0 over the disk's 0", Check.slot(x, 0), "1 0 0 0 1 1");
+        x.flush();
+        x.write(1, 0);
+        Check.due("0 over the slot's 0", Check.slot(x, 0), "1 0 0 0 2 1");
+        Check.due("flush", x.flush(), 1);
     }
 
     private static void sameEpoch() {
@@ -50,6 +76,27 @@ public final class WriteTest {
         Check.due("those are clean", x.slot(0, 2) + x.slot(1, 2), -2);
     }
 
+    private static void oneEpochEarlier() {
+        BarrierCache x = new BarrierCache(1, 0);
+        x.write(5, 50);
+        x.barrier();
+        Check.due("its dirt is written out first", x.write(5, 51), 1);
+        Check.due("disk", x.disk(5), 50);
+        Check.due("its slot", Check.slot(x, 0), "5 51 1 0 2 1");
+        Check.due("again in the epoch", x.write(5, 52), 0);
+    }
+
+    private static void cleanBehindABarrier() {
+        BarrierCache x = new BarrierCache(2, 0);
+        x.write(4, 40);
+        x.write(5, 50);
+        x.force(5, 51);
+        x.barrier();
+        Check.due("a clean slot has no dirt to write out, and no earlier dirt goes", x.write(5, 52), 0);
+        Check.due("their epochs", x.slot(0, 2) + " " + x.slot(1, 2), "0 1");
+        Check.due("a new block's neither", new BarrierCache(1, 0).write(5, 1), 0);
+    }
+
     private static void takesSlots() {
         BarrierCache x = new BarrierCache(2, 1);
         x.write(1, 10);
@@ -64,6 +111,19 @@ public final class WriteTest {
         x.write(4, 40);
         Check.due("a free one before all", Check.blocks(x), "3 4");
         Check.due("slots taken", x.total(6), 1);
+    }
+
+    private static void takesASlotOfALaterEpoch() {
+        BarrierCache x = new BarrierCache(3, 0);
+        x.write(1, 10);
+        x.barrier();
+        x.write(2, 20);
+        x.write(3, 30);
+        x.read(1);
+        Check.due("2 was used longest ago; 1 goes out before it", x.write(4, 40), 2);
+        Check.due("written", Check.writtenFrom(x, 0), "1 2");
+        Check.due("slots", Check.blocks(x), "1 4 3");
+        Check.due("dirty ones", x.total(1), 2);
     }
 
     private static void forcedWithoutSlot() {
@@ -97,28 +157,35 @@ public final class WriteTest {
         Check.due("disk 2", x.disk(2), 0);
         Check.due("all slots are free", Check.blocks(x), "-1 -1 -1");
         Check.due("no dirt", x.total(1), 0);
-        x.power();
+    }
+
+    private static void powerFailsWhileASlotIsTaken() {
+        BarrierCache x = new BarrierCache(3, 0);
         x.write(1, 1);
         x.write(2, 2);
         x.write(3, 3);
         x.cut(1);
         Check.due("while a slot is taken", x.write(4, 4), 0);
         Check.due("it did not come", Check.blocks(x), "-1 -1 -1");
+        Check.due("nor was it forced", x.disk(4), 0);
         Check.due("no dirt", x.total(1), 0);
-        Check.due("disk 1", x.disk(1), 10);
+        Check.due("disk 1", x.disk(1), 0);
+        Check.due("writes", x.total(7), 0);
     }
 
     private static void powerFailsWhileForced() {
-        BarrierCache x = new BarrierCache(1, 0);
-        x.write(1, 10);
-        x.pin(1, true);
-        x.barrier();
-        x.cut(2);
-        Check.due("forced, earlier dirt went out", x.write(2, 20), 1);
-        Check.due("disk 1", x.disk(1), 10);
-        Check.due("disk 2", x.disk(2), 0);
-        Check.due("power", x.total(10), 0);
-        Check.due("pinned ones", x.total(2), 0);
+        for (int k = 1; k <= 3; k++) {
+            BarrierCache x = new BarrierCache(1, 0);
+            x.write(1, 10);
+            x.pin(1, true);
+            x.barrier();
+            x.cut(k);
+            Check.due("cut " + k + ": earlier dirt, then it itself", x.write(2, 20), k - 1);
+            Check.due("cut " + k + ": disk 1", x.disk(1), k > 1 ? 10 : 0);
+            Check.due("cut " + k + ": disk 2", x.disk(2), k > 2 ? 20 : 0);
+            Check.due("cut " + k + ": power", x.total(10), k > 2 ? 1 : 0);
+            Check.due("cut " + k + ": pinned ones", x.total(2), k > 2 ? 1 : 0);
+        }
     }
 
     private static void wrongCalls() {
